@@ -5,6 +5,8 @@ public final class AskedTest {
         promise28ThingOf();
         promise29TicketOf();
         promise29Interest();
+        promise29InterestRounded();
+        promise29InterestOfSteps();
         promise30InterestAnew();
         promise31ExpertOf();
         promise32Bears();
@@ -86,6 +88,48 @@ public final class AskedTest {
             Checks.due("29: interest on " + days[i], x.ticketOf(0, 3), due[i]);
             Checks.due("30: interest on " + days[i], x.interestAnew(0), due[i]);
         }
+    }
+
+    /** Each fortnight is rounded up by itself. */
+    private static void promise29InterestRounded() {
+        Pledgehouse x = new Pledgehouse();
+        x.deposit(100000);
+        x.charter(0, 90, 100000);
+        x.thing(Pledgehouse.RING, 1, 10000);
+        x.thing(Pledgehouse.RING, 1, 10000);
+        x.rate(0, 1);
+        x.pledge(0, 0, 0, 0, 1, true);
+        x.pledge(0, 1, 0, 0, 9000, true);
+        x.pass(4);
+        Checks.due("29: a thousandth of 1", x.ticketOf(0, 3), 1);
+        Checks.due("29: a thousandth of 9000", x.ticketOf(1, 3), 9);
+        x.pass(10);
+        x.rate(0, 100);
+        Checks.due("29: and a tenth of 1", x.ticketOf(0, 3), 2);
+        Checks.due("29: and a tenth of 9000", x.ticketOf(1, 3), 909);
+        x.pass(14);
+        x.rate(0, 0);
+        Checks.due("29: and nothing of 1", x.ticketOf(0, 3), 2);
+        Checks.due("29: and nothing of 9000", x.ticketOf(1, 3), 909);
+    }
+
+    /** The steps 0, 1 and 2 have rates of their own, each from the day on which it was told. */
+    private static void promise29InterestOfSteps() {
+        Pledgehouse x = house();
+        x.rate(0, 2);
+        x.rate(1, 4);
+        x.rate(2, 6);
+        x.pass(69);
+        x.rate(1, 100);
+        x.rate(0, 4);
+        x.pass(1);
+        x.rate(1, 8);
+        x.pass(200);
+        x.rate(2, 10);
+        x.pass(10);
+        // of 501, rounded up: five times 2 thousandths, once 4, twelve times 8, twice 6 and once 10
+        Checks.due("29: steps", x.ticketOf(0, 3), 5 * 2 + 3 + 12 * 5 + 2 * 4 + 6);
+        Checks.due("30: steps", x.interestAnew(0), 87);
     }
 
     private static void promise30InterestAnew() {

@@ -152,6 +152,9 @@ public final class MoneyTest {
         Pledgehouse y = house(121);
         y.redeem(0, 4);
         Checks.noState("24: REDEEMED", () -> y.claim(0, 4));
+        Pledgehouse z = house(121);
+        Checks.due("24: the least", z.offer(0, 584), 1);
+        Checks.due("24: the least", z.claim(0, 4), 1);
     }
 
     private static void promise24Gift() {
@@ -177,6 +180,16 @@ public final class MoneyTest {
         Checks.due("24: the last day", y.claim(0, 4), 301);
         y.pass(1);
         Checks.due("24: claimed is not given", y.money(3), 0);
+        Pledgehouse z = house(121);
+        z.offer(0, 584);
+        z.notice(0, 5);
+        z.pass(400);
+        z.pass(400);
+        z.pass(180);
+        z.notice(0, 6);
+        z.pass(21);
+        Checks.due("24: a surplus of 1, barred", z.money(3), 1);
+        Checks.due("24: kept no more", z.ticketOf(0, 7), 0);
     }
 
     private static void promise25Deposit() {
@@ -203,6 +216,8 @@ public final class MoneyTest {
         Checks.noArgument("26: 0", () -> x.withdraw(0));
         Checks.noArgument("26: 100001", () -> x.withdraw(100001));
         Checks.noState("26: too much", () -> x.withdraw(4501));
+        x.deposit(100000);
+        Checks.due("26: most", x.withdraw(100000), 4500);
         Checks.due("26: one", x.withdraw(1), 4499);
         x.offer(0, 900);
         Checks.noState("26: what is kept is not free", () -> x.withdraw(5099));

@@ -10,6 +10,7 @@ public final class StoresTest {
         promise21Wind();
         promise22Pass();
         promise22Wear();
+        promise22WearOfLateFurs();
         Checks.end("StoresTest");
     }
 
@@ -275,5 +276,26 @@ public final class StoresTest {
         x.fashion(Pledgehouse.CLOCK, 200);
         // 12 * 8 / 10 is rounded down to 9 ahead of the fashion
         Checks.due("22: value rounded down twice", x.thingOf(out, 1), 18);
+    }
+
+    /** A fur that is stored late, and anew on the shelf where it was, comes there on that day. */
+    private static void promise22WearOfLateFurs() {
+        Pledgehouse x = house();
+        stored(x, Pledgehouse.FUR, 50, 0);
+        x.pass(25);
+        int fur = stored(x, Pledgehouse.FUR, 50, 0);
+        Checks.due("22: a warm shelf", x.thingOf(fur, 4), 1);
+        x.pass(59);
+        Checks.due("22: 59 days", x.thingOf(fur, 2), 0);
+        x.pass(1);
+        Checks.due("22: 60 days", x.thingOf(fur, 2), 1);
+        x.pass(20);
+        x.redeem(1, 0);
+        x.pledge(0, fur, 0, 0, 1, false);
+        Checks.due("22: the same shelf", x.thingOf(fur, 4), 1);
+        x.pass(59);
+        Checks.due("22: 59 days anew", x.thingOf(fur, 2), 1);
+        x.pass(1);
+        Checks.due("22: 60 days anew", x.thingOf(fur, 2), 2);
     }
 }
