@@ -22,10 +22,20 @@ final class Checks {
             call.run();
         } catch (RuntimeException e) {
             got = e.getClass();
+            thrownByProgram(what, e);
         }
         if (got != due) {
             wrong++;
             System.out.println(what + " threw " + got + ", due is " + due);
+        }
+    }
+
+    /** The program itself throws: neither the machine nor the library does, not even the same exception. */
+    static void thrownByProgram(String what, RuntimeException e) {
+        StackTraceElement[] trace = e.getStackTrace();
+        if (trace.length == 0 || !trace[0].getClassName().startsWith("Pledgehouse")) {
+            wrong++;
+            System.out.println(what + " threw " + e + " outside the program");
         }
     }
 

@@ -49,6 +49,7 @@ public final class ModelTest {
         try {
             return call.getAsLong();
         } catch (RuntimeException e) {
+            Checks.thrownByProgram("a call", e);
             if (e.getClass() == IndexOutOfBoundsException.class) {
                 return Model.INDEX;
             }
